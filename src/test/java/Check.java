@@ -24,9 +24,9 @@ final class Check {
         tell(got.equals(due), what + " answered " + got + ", due is " + due);
     }
 
-    /** The call must throw exactly this class, and leave all that can be asked as it was. */
+    /** The call must throw exactly this class, and leave all that the digest tells of as it was. */
     void refused(String what, Class<? extends RuntimeException> due, SunsetDates x, Call call) {
-        String before = picture(x);
+        long before = x.digest();
         String got = "no exception";
         try {
             call.on(x);
@@ -34,7 +34,7 @@ final class Check {
             got = e.getClass().getName();
         }
         equal(what, got, due.getName());
-        equal("the state after " + what, picture(x), before);
+        equal("the digest after " + what, x.digest(), before);
     }
 
     void finish() {
@@ -77,11 +77,6 @@ final class Check {
             }
         }
         return state.append(x.costs(0, 999)).toString();
-    }
-
-    /** The state with the digest, which tells of the text's length and of the saved states, too. */
-    static String picture(SunsetDates x) {
-        return state(x) + " " + x.digest();
     }
 
     /** Undoes all that can be undone. */

@@ -30,7 +30,7 @@ final class ModelTest {
         if (seed % 5 != 0) {
             setUp(seed);
         }
-        while (calls < CALLS - 6) {
+        while (calls < CALLS - 10) {
             step();
         }
         same("digest", x::digest, m::digest);
