@@ -91,5 +91,12 @@ final class StateTest {
             0, 1, 1, 260, 1, 20, 0, 1, 0, -1, -1, 0, 0, -1,
             0, 1, 250, 899, 5, 640 * 5, 3));
         check.equal("digest again", x.digest(), x.digest());
+        SunsetDates y = new SunsetDates();
+        y.addVersion(0, 1000);
+        y.addFeature(0);
+        y.addUser(0, 1);
+        y.addShim(0, 0, 0, 999, 2);
+        check.equal("digest with costs on the first day and on the last one", y.digest(),
+            hash(0, 1, 1, 1, 1, 0, 1, 0, 0, 0, 1000, 0, 0, 1, 0, 1, -1, -1, 0, 0, -1, 0, 0, 0, 999, 2, 2000, 4));
     }
 }

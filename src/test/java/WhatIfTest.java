@@ -44,6 +44,22 @@ final class WhatIfTest {
         x.put(0, 2, false);
         x.addShim(0, 2, 0, 998, 1);
         check.equal("on the last day only", x.firstStranded(0, 0), 999);
+        SunsetDates gap = new SunsetDates();
+        gap.addVersion(0, 1000);
+        gap.addVersion(0, 1000);
+        gap.addFeature(0);
+        gap.addUser(0, 1);
+        gap.addShim(0, 0, 0, 10, 1);
+        gap.addShim(0, 0, 11, 11, 1);
+        gap.addShim(0, 0, 13, 999, 1);
+        check.equal("a gap of one day", gap.firstStranded(0, 0), 12);
+        check.equal("behind the gap", gap.firstStranded(0, 13), -1);
+        check.equal("days stranded", gap.value(7), 1);
+        gap.addShim(0, 1, 12, 999, 1);
+        check.equal("a move in the gap", gap.latestMove(0, 1, 0), 12);
+        gap.dropShim(3);
+        gap.addShim(0, 1, 13, 999, 1);
+        check.equal("a move that is too late for the gap", gap.latestMove(0, 1, 0), -1);
         for (int bad : new int[] {-1, 3, MIN, MAX}) {
             check.refused("firstStranded(" + bad + ", 1000)", INDEX, x, y -> y.firstStranded(bad, 1000));
         }
@@ -158,6 +174,7 @@ final class WhatIfTest {
         check.equal("whatever the pledge is", x.cheapest(0, 3, 7), 0);
         check.equal("none at the end", x.cheapest(0, 800, 801), 1);
         check.equal("without uses", x.cheapest(1, 0, 999), 0);
+        cheapestDayByDay();
         for (int bad : new int[] {-1, 2, MIN, MAX}) {
             check.refused("cheapest(" + bad + ", 5, 4)", INDEX, x, y -> y.cheapest(bad, 5, 4));
         }
@@ -166,6 +183,27 @@ final class WhatIfTest {
             check.refused("cheapest(0, 0, " + bad + ")", ARGUMENT, x, y -> y.cheapest(0, 0, bad));
         }
         check.refused("cheapest(0, 5, 4)", ARGUMENT, x, y -> y.cheapest(0, 5, 4));
+    }
+
+    /** Prices that change from one day to the next: each day of the range counts once, and none beside it. */
+    private static void cheapestDayByDay() {
+        SunsetDates x = new SunsetDates();
+        x.addVersion(0, 1000);
+        x.addVersion(0, 1000);
+        x.addFeature(0);
+        x.addUser(0, 1);
+        x.addShim(0, 0, 0, 4, 1);
+        x.addShim(0, 0, 5, 5, 3);
+        x.addShim(0, 0, 6, 9, 9);
+        x.addShim(0, 1, 0, 9, 5);
+        check.equal("3 + 9 against 5 + 5", x.cheapest(0, 5, 6), 1);
+        check.equal("1 + 3 + 9 against 5 + 5 + 5", x.cheapest(0, 4, 6), 0);
+        check.equal("1 + 3 + 9 + 9 against four times 5", x.cheapest(0, 4, 7), 1);
+        check.equal("four times 1, 3 and 9 against six times 5", x.cheapest(0, 1, 6), 0);
+        check.equal("three times 1, 3 and three times 9 against seven times 5", x.cheapest(0, 2, 8), 0);
+        check.equal("beyond the shims of both", x.cheapest(0, 9, 10), -1);
+        check.equal("one day", x.cheapest(0, 5, 5), 0);
+        check.equal("costs of the first version", x.costs(4, 6), 13);
     }
 
     private static void shimsNeeded() {
@@ -186,6 +224,12 @@ final class WhatIfTest {
         x.pledge(3, 1, 80);
         check.equal("all on one version", x.shimsNeeded(80), 2);
         check.equal("nobody", new SunsetDates().shimsNeeded(0), 0);
+        SunsetDates one = Calendars.small();
+        one.addFeature(0);
+        one.addUser(1, 0);
+        check.equal("the only user has all", one.shimsNeeded(60), 0);
+        one.put(1, 0, false);
+        check.equal("the first user has not all", one.shimsNeeded(60), 1);
         for (int bad : new int[] {-1, 1000, MIN, MAX}) {
             check.refused("shimsNeeded(" + bad + ")", ARGUMENT, x, y -> y.shimsNeeded(bad));
         }
