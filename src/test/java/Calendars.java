@@ -29,5 +29,60 @@ final class Calendars {
         return x;
     }
 
+    /** One version, which has the one feature that the one user uses. */
+    static SunsetDates single(int release, int end) {
+        SunsetDates x = new SunsetDates();
+        x.addVersion(release, end);
+        x.addFeature(1);
+        x.addUser(0, 1);
+        return x;
+    }
+
+    /** Two versions without an end, the feature in none of them, and a user of it on the first one. */
+    static SunsetDates bare() {
+        SunsetDates x = new SunsetDates();
+        x.addVersion(0, 1000);
+        x.addVersion(0, 1000);
+        x.addFeature(0);
+        x.addUser(0, 1);
+        return x;
+    }
+
+    /** Two versions that end on 500 and 600, a user with a pledge that can slip; four states are saved. */
+    static SunsetDates early() {
+        SunsetDates x = new SunsetDates();
+        x.addVersion(0, 500);
+        x.addVersion(0, 600);
+        x.addUser(0, 0);
+        x.pledge(0, 1, 100);
+        return x;
+    }
+
+    /** A version on the days 10 to 19 without the feature, which a shim at 5 serves for the one user. */
+    static SunsetDates shimmed10To20() {
+        SunsetDates x = single(10, 20);
+        x.put(0, 0, false);
+        x.addShim(0, 0, 0, 999, 5);
+        return x;
+    }
+
+    /** As many as there can be: ten users of ten features on version 7, each use served by a shim at 99 on all days. */
+    static SunsetDates dearest() {
+        SunsetDates x = new SunsetDates();
+        for (int i = 0; i < 8; i++) {
+            x.addVersion(0, 1000);
+        }
+        for (int i = 0; i < 10; i++) {
+            x.addFeature(0);
+        }
+        for (int i = 0; i < 10; i++) {
+            x.addUser(7, 1023);
+        }
+        for (int i = 0; i < 12; i++) {
+            x.addShim(Math.min(i, 9), 7, 0, 999, 99);
+        }
+        return x;
+    }
+
     private Calendars() { }
 }
